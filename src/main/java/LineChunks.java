@@ -20,7 +20,8 @@ public final class LineChunks {
         lineEnds = 0;
     }
 
-    public int insert(int index, int value, int step, int n) {
+    public int insert(int index, int value, int step, int n)
+            throws IllegalArgumentException, IllegalStateException {
         if (index < 0 || index > count || n < 1 || n > MOST_AT_ONCE) {
             throw new IllegalArgumentException();
         }
@@ -34,7 +35,7 @@ public final class LineChunks {
         return count;
     }
 
-    public int delete(int index, int n) {
+    public int delete(int index, int n) throws IllegalArgumentException {
         // Told as a difference, because index + n may wrap.
         if (index < 0 || n < 1 || index > count - n) {
             throw new IllegalArgumentException();
@@ -44,7 +45,7 @@ public final class LineChunks {
         return count;
     }
 
-    public int get(int index) {
+    public int get(int index) throws NoSuchElementException {
         if (index < 0 || index >= count) {
             throw new NoSuchElementException();
         }
@@ -59,14 +60,14 @@ public final class LineChunks {
         return lineEnds + 1;
     }
 
-    public int line(int n) {
+    public int line(int n) throws NoSuchElementException {
         if (n < 0 || n > lineEnds) {
             throw new NoSuchElementException();
         }
         return indexBehindLineEnds(n);
     }
 
-    public int lineOf(int index) {
+    public int lineOf(int index) throws IllegalArgumentException {
         if (index < 0 || index > count) {
             throw new IllegalArgumentException();
         }
@@ -90,6 +91,7 @@ public final class LineChunks {
         elements = Arrays.copyOf(elements, Math.max(needed, doubled));
     }
 
+    // The end of the row goes with its tail, so that no caller can move one without the other.
     private void moveTail(int from, int to) {
         System.arraycopy(elements, from, elements, to, count - from);
         count += to - from;

@@ -9,13 +9,13 @@ import java.util.TreeSet;
 public final class FaceTest {
     private static final Set<String> DUE = Set.of(
         "public LineChunks()",
-        "public int LineChunks.insert(int,int,int,int)",
-        "public int LineChunks.delete(int,int)",
-        "public int LineChunks.get(int)",
+        "public int LineChunks.insert(int,int,int,int) throws java.lang.IllegalArgumentException,java.lang.IllegalStateException",
+        "public int LineChunks.delete(int,int) throws java.lang.IllegalArgumentException",
+        "public int LineChunks.get(int) throws java.util.NoSuchElementException",
         "public int LineChunks.length()",
         "public int LineChunks.lines()",
-        "public int LineChunks.line(int)",
-        "public int LineChunks.lineOf(int)",
+        "public int LineChunks.line(int) throws java.util.NoSuchElementException",
+        "public int LineChunks.lineOf(int) throws java.lang.IllegalArgumentException",
         "public int LineChunks.digest()");
 
     public static void main(String[] args) {
