@@ -4,8 +4,17 @@ final class Check {
         int answer();
     }
 
+    /** As many elements as a row may have. */
+    static final int FULL = 20000;
+
+    private String words = "";
     private int asked = 0;
     private int wrong = 0;
+
+    /** The document's words that the answers asked from now on are about; a fault is told with them. */
+    void about(String words) {
+        this.words = words;
+    }
 
     void same(String call, long want, long got) {
         asked++;
@@ -26,7 +35,7 @@ final class Check {
         }
     }
 
-    /** Compares the whole row and all lines with what is due; takes some 3 calls an element. */
+    /** Compares the whole row and all lines with what is due; takes 2 calls an element, one a line end, and 5. */
     void row(String when, LineChunks x, int... want) {
         same(when + ": length()", want.length, x.length());
         int sum = 0;
@@ -46,11 +55,24 @@ final class Check {
         same(when + ": digest()", sum, x.digest());
     }
 
-    /** An object with 20000 elements, made by 40 calls. */
+    /** Compares a full row of one value with what is due, in 8 calls. */
+    void fullRow(String when, LineChunks x, int value) {
+        int lineEnds = value == 10 ? FULL : 0;
+        same(when + ": length()", FULL, x.length());
+        same(when + ": lines()", lineEnds + 1, x.lines());
+        same(when + ": line(last)", lineEnds, x.line(lineEnds));
+        same(when + ": lineOf(length)", lineEnds, x.lineOf(FULL));
+        same(when + ": digest()", (int) (200010000L * value), x.digest());
+        for (int index : new int[] {0, FULL / 2, FULL - 1}) {
+            same(when + ": get(" + index + ")", value, x.get(index));
+        }
+    }
+
+    /** A row of 20000 times one value, made by 40 calls. */
     static LineChunks full(int value) {
         LineChunks x = new LineChunks();
-        for (int i = 0; i < 40; i++) {
-            x.insert(x.length(), value, 0, 500);
+        for (int length = 0; length < FULL; length += 500) {
+            x.insert(length, value, 0, 500);
         }
         return x;
     }
@@ -64,6 +86,6 @@ final class Check {
 
     private void tell(String fault) {
         wrong++;
-        System.out.println(fault);
+        System.out.println(fault + (words.isEmpty() ? "" : " (\"" + words + "\")"));
     }
 }
